@@ -546,13 +546,17 @@ public final class StylePapers {
 
         int leaderIn(int l, int a) {
             int d = districtOf(l, a);
-            int turn = 0;
+            int leader = 0;
             for (int b = 0; b < a; b++) {
                 if (districtOf(l, b) == d) {
-                    turn++;
+                    leader = nextLeader(l, d, leader);
                 }
             }
-            return turn % namesOf(l, d);
+            return leader;
+        }
+
+        private int nextLeader(int l, int d, int leader) {
+            return leader + 1 < namesOf(l, d) ? leader + 1 : 0;
         }
 
         // Of the blocks of district d where name n leads: their voters, or how many they are.
@@ -564,7 +568,7 @@ public final class StylePapers {
                     if (leader == n) {
                         many += byVoters ? people[a] : 1;
                     }
-                    leader = leader + 1 < namesOf(l, d) ? leader + 1 : 0;
+                    leader = nextLeader(l, d, leader);
                 }
             }
             return many;
@@ -851,12 +855,14 @@ public final class StylePapers {
             }
         }
 
+        // NEXT never goes back: its last column is on the last sheet, and so is the one behind it.
         private int nextColumn(int height) {
-            if (room[last] >= height) {
-                return last;
+            for (int c = last; c <= last + 1 && c < sheets * columns; c++) {
+                if (room[c] >= height) {
+                    return c;
+                }
             }
-            boolean hasBehind = (last + 1) % columns != 0;
-            return hasBehind && room[last + 1] >= height ? last + 1 : NONE;
+            return NONE;
         }
 
         private int firstColumn(int height) {

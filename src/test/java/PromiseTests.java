@@ -278,6 +278,9 @@ public final class PromiseTests {
         x.undo();
         due("papers are no edit: columns", x.told(4), 3);
         due("papers are no edit: depth", x.told(5), 20);
+        x.names(3, 5, 8);
+        x.undo();
+        due("the last contest's names", x.names(3, 5, 2), 2);
     }
 
     private static void of() {
@@ -339,6 +342,9 @@ public final class PromiseTests {
         due("thirty orders", say(x, "on3;".repeat(30)), 30);
         due("the last of a long text is at fault", say(x, "on3;".repeat(29) + "on3 "), -10 - 120);
         due("blanks first", say(x, "   on 3;"), 1);
+        due("the least numbers", say(x, "on 0;off 0;put 0 0 0 0;names 0 0 1;voters 0 0;"), 5);
+        due("the greatest numbers", say(x, "on 3;off 3;put 3 5 23 23;names 3 5 8;voters 23 99;"), 5);
+        due("put", x.of(23, 5), 5);
     }
 
     private static void faultAt(String text, int place) {
@@ -364,6 +370,8 @@ public final class PromiseTests {
         faultAt("on 1; x", 6);
         faultAt("one 1;", 0);
         faultAt("onon 1;", 0);
+        faultAt("in 1;", 0);
+        faultAt("off 4;", 4);
         faultAt(" On 1;", 1);
         faultAt("oN 1;", 0);
         faultAt(";", 0);
@@ -457,6 +465,11 @@ public final class PromiseTests {
         y.puts(0, 1, 3, 3);
         y.puts(0, 1, 4, 4);
         due("ends of rows", y.style(1, 2), 2);
+        y.puts(0, 1, 0, 0);
+        due("ends of rows, the lower one first", y.style(0, 2), 2);
+        y.puts(0, 0, 0, 23);
+        y.puts(0, 1, 0, 0);
+        due("block 0 alone", y.style(0, 2), 1);
         // A ring around a hole, and a winding way.
         StylePapers z = new StylePapers();
         z.puts(0, 1, 0, 10);
@@ -504,6 +517,8 @@ public final class PromiseTests {
         due("the other way round", x.beside(1, 0), 8);
         due("below", x.beside(0, 2), 4);
         due("apart", x.beside(1, 2), 0);
+        x.puts(0, 2, 5, 5);
+        due("left and right", x.beside(1, 2), 2);
         allBad(x, 0, x.beside(0, 0), x.beside(2, 2), x.beside(0, 3), x.beside(3, 0), x.beside(-1, 0),
             x.beside(0, -1));
     }
@@ -534,6 +549,13 @@ public final class PromiseTests {
         due("most parts", x.odd(1), 1);
         x.voters(8, 0);
         due("fewest voters", x.odd(0), 2);
+        for (int a = 4; a < 8; a++) {
+            x.voters(a, 0);
+            x.voters(a + 8, 0);
+            x.voters(a + 12, 0);
+            x.voters(a + 16, 0);
+        }
+        due("fewest voters", x.odd(0), 1);
         x.puts(0, 1, 20, 23);
         due("of like parts the least", x.odd(1), 0);
         allBad(x, 0, x.odd(-1), x.odd(2));
@@ -649,6 +671,9 @@ public final class PromiseTests {
         laid(w, 1, 0, 1, 0, 1);
         laid(w, 2, 0, 1, 0, 1);
         laid(w, 3, 0, 1, 0, 1);
+        // NEXT goes through all columns of a sheet, and into one that is filled.
+        StylePapers u = withHeights(3, 10, 6, 10, 7, 8);
+        laid(u, 0, 0, 1, 2, 3);
         // LOOSE: of like ones the first: 6 and 6 leave 4 and 4; TIGHT likewise.
         StylePapers v = withHeights(2, 10, 6, 6, 4, 4);
         laid(v, 2, 0, 1, 0, 1);
