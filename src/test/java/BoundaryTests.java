@@ -514,6 +514,16 @@ public final class BoundaryTests {
         text("voters 0 000;", fault(9));
         text("voters 0 0000000000;", fault(9));
         text("voters 2 4294967297;", fault(9));
+        for (String order : new String[] {"on 1", "off 1", "put 1 1 1 1", "names 1 1 1", "voters 1 1"}) {
+            for (int i = 0; i < order.length(); i++) {
+                if (order.charAt(i) == '1') {
+                    String rest = order.substring(i) + ";";
+                    text(order.substring(0, i) + "0" + rest, 1);
+                    text(order.substring(0, i) + "00" + rest, fault(i));
+                    text(order.substring(0, i) + "10" + rest, fault(i));
+                }
+            }
+        }
         // Blanks: needed between letters, between figures, nowhere else.
         text("on1;", 1);
         text("put1 2 3 7;", 1);
@@ -554,10 +564,16 @@ public final class BoundaryTests {
         text("ON 1;", fault(0));
         text("on 1;ofF 1;", fault(5));
         // Words that are nearly one, words where none can stand, numbers where none can stand.
-        for (String word : new String[] {"o", "onn", "of", "offf", "pu", "puts", "name", "namess", "voter", "voterss"}) {
+        String[] nearly = {"o", "onn", "of", "offf", "pu", "puts", "name", "namess", "voter", "voterss"};
+        for (String word : nearly) {
             text(word + " 1 1 1 1;", fault(0));
             text("on 1; " + word, fault(6));
         }
+        text("an 1;", fault(0));
+        text("uff 1;", fault(0));
+        text("voters 0 a;", fault(9));
+        text("voters 0 ;;", fault(9));
+        text("voters a 0;", fault(7));
         text("on off;", fault(3));
         text("on 1 off", fault(5));
         text("5;", fault(0));
@@ -622,6 +638,16 @@ public final class BoundaryTests {
         due("the last of both", x.of(1, 0), 6);
         due("the same once more", x.does(), 6);
         due("two edits", x.told(8), 2);
+        // Each order does what its call does.
+        StylePapers y = new StylePapers();
+        write(y, "on 2;on 3;off 0;put 3 4 5 14;names 3 4 7;names 1 2 8;voters 23 45;");
+        due("seven", y.does(), 7);
+        due("on and off", y.told(7), 12);
+        due("put", y.puts(3, 4, 5, 14), 0);
+        due("beside put", many(districtsIn(y, 3), 4), 6);
+        due("names", y.names(3, 4, 2), 7);
+        due("names", y.names(1, 2, 2), 8);
+        due("voters", y.voters(23, 1), 45);
     }
 
     private static void styles() {
@@ -687,6 +713,31 @@ public final class BoundaryTests {
         w.puts(0, 1, 13, 15);
         due("a winding way", w.style(0, 2), 1);
         due("two bars", w.style(1, 2), 2);
+        due("asked again", w.style(0, 2), 1);
+        waysBack();
+    }
+
+    /** Parts whose least block reaches the others only by going left, or up, or past the ends of rows. */
+    private static void waysBack() {
+        due("left", partsOf(1, 5, 4), 1);
+        due("left, twice", partsOf(2, 6, 5, 4), 1);
+        due("up", partsOf(0, 4, 8, 9, 10, 6, 2), 1);
+        due("up into the first row", partsOf(2, 6, 10, 9, 8, 4, 0), 1);
+        due("up into the first row at its left", partsOf(0, 4, 5, 6, 2), 1);
+        due("left to the first column", partsOf(23, 22, 21, 20), 1);
+        due("two in the last row", partsOf(20, 21, 23), 2);
+        due("two columns", partsOf(3, 7, 0, 4), 2);
+        due("end and start of rows", partsOf(3, 4), 2);
+        due("end and start of the last rows", partsOf(19, 20), 2);
+        due("corners alone", partsOf(5, 10, 15, 0), 4);
+    }
+
+    private static int partsOf(int... blocks) {
+        StylePapers x = new StylePapers();
+        for (int a : blocks) {
+            x.puts(0, 1, a, a);
+        }
+        return x.style(x.of(blocks[0], 1), 2);
     }
 
     private static void without() {
@@ -771,7 +822,16 @@ public final class BoundaryTests {
         due("the last", x.odd(0), 23);
         x.voters(22, 0);
         due("of like ones the least", x.odd(0), 22);
+        x.voters(1, 0);
+        due("the second", x.odd(0), 1);
+        x.voters(0, 0);
+        due("the first", x.odd(0), 0);
         due("refused", x.told(0), 2);
+        StylePapers w = new StylePapers();
+        w.puts(0, 1, 1, 23);
+        due("fewest blocks, fewest voters", w.odd(0), 0);
+        w.voters(0, 24);
+        due("one more than the other", w.odd(0), 1);
         StylePapers y = new StylePapers();
         y.puts(0, 1, 20, 20);
         y.puts(0, 1, 23, 23);
@@ -1058,6 +1118,11 @@ public final class BoundaryTests {
         edges("fair, d", 0, 5, d -> x.fair(0, d, 1), 98, 0);
         edges("fair, what", 0, 1, what -> x.fair(0, 0, what), 0, 98);
         due("refused", x.told(0), 6);
+        x.voters(1, 0);
+        x.voters(9, 0);
+        x.voters(17, 0);
+        due("24 by 8, whoever votes", x.fair(0, 0, 0), 0);
+        due("101 and 0", x.fair(0, 0, 1), 101);
         x.names(0, 0, 7);
         due("24 by 7", x.fair(0, 0, 0), 1);
         x.names(0, 0, 1);
