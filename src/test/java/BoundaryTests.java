@@ -269,6 +269,9 @@ public final class BoundaryTests {
         due("its own", z.follows(3, 0, 3), 0);
         due("the greater of its own", z.follows(3, 3, 3), 0);
         due("edits", z.told(8), 3);
+        z.puts(0, 5, 0, 23);
+        due("a lesser one's", z.follows(0, 0, 1), 24);
+        due("a lesser one's", many(districtsIn(z, 0), 0), 24);
         due("another's", z.follows(2, 3, 3), 24 - many(districtsIn(z, 3), 0));
         due("layer 3 stays", Arrays.equals(districtsIn(z, 3), districtsIn(z, 2)) ? 1 : 0, 1);
     }
@@ -1018,6 +1021,11 @@ public final class BoundaryTests {
         due("BAD comes first", x.rule(-1), BAD);
         due("NO", x.told(1), 2);
         due("BAD", x.told(0), 4);
+        StylePapers z = allApart();
+        edges("rule, the most styles", 0, 1, what -> z.rule(what), 0, 24);
+        z.names(3, 5, 8);
+        z.paper(1, 9);
+        due("the last four of the most styles are bare", z.rule(0), NO);
         // A bare style without a voter is one, too; a contest that is off or of no block makes none.
         StylePapers y = new StylePapers();
         y.puts(0, 1, 23, 23);
